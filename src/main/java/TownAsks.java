@@ -828,7 +828,8 @@ public final class TownAsks {
 
         private int nextDesk(int desk, int quarter) {
             for (int row = 0; row < rows; row++) {
-                if (letter[row] == SENDS && firstDigit[row] == desk && secondDigit[row] == quarter) {
+                boolean leadsOn = letter[row] == SENDS && firstDigit[row] == desk;
+                if (leadsOn && secondDigit[row] == quarter) {
                     return thirdDigit[row];
                 }
             }

@@ -9,6 +9,7 @@ public final class AsksTest {
         askFull();
         closedThingsTakeNoAsk();
         marksAndMeet();
+        marksAtFirst();
         meetDays();
         marksEdges();
         ofAnAsk();
@@ -79,9 +80,15 @@ public final class AsksTest {
 
     private static void askFull() {
         TownAsks x = new TownAsks();
+        x.marks(1, 0, 0);
         for (int i = 0; i < 40; i++) {
-            CHECK.due("ask " + i, x.ask(1, i % 32, i / 32 * 20, 0, 3), x.of(i, 5));
+            CHECK.due("ask " + i, x.ask(1, i % 32, i / 32 * 20, 0, 3), i);
         }
+        CHECK.due("40 things", x.told(1), 40);
+        CHECK.due("40 open things", x.told(2), 40);
+        CHECK.due("the last thing", x.thing(39, 1), 7);
+        CHECK.due("its ask", x.asked(39, 0), 39);
+        CHECK.due("in quarter 2", x.quarter(2, 0), 8);
         CHECK.due("40 asks", x.told(0), 40);
         CHECK.due("a 41st", x.ask(1, 0, 0, 0, 3), Check.FULL);
         CHECK.due("BEYOND is asked ahead of FULL", x.ask(1, 0, 0, 0, 2), Check.BEYOND);
@@ -117,6 +124,21 @@ public final class AsksTest {
         CHECK.due("meet 4", x.meet(4, 1), Check.BEYOND);
         CHECK.due("meet b 4", x.meet(1, 4), Check.BEYOND);
         CHECK.due("meet the last", x.meet(3, 0), 1);
+    }
+
+    private static void marksAtFirst() {
+        for (int kind = 0; kind < 5; kind++) {
+            TownAsks x = new TownAsks();
+            x.ask(kind, 8, 8, 0, 100);
+            x.ask(kind, 9, 7, 0, 100);
+            x.ask(kind, 10, 7, 0, 100);
+            x.ask(kind, 8, 8, 0, 130);
+            x.ask(kind, 8, 8, 0, 131);
+            CHECK.due("kind " + kind + ": FAR 2", x.meet(0, 1), 1);
+            CHECK.due("kind " + kind + ": FAR 3", x.meet(0, 2), 0);
+            CHECK.due("kind " + kind + ": 30 days", x.meet(0, 3), 1);
+            CHECK.due("kind " + kind + ": 31 days", x.meet(0, 4), 0);
+        }
     }
 
     private static void meetDays() {
@@ -216,6 +238,12 @@ public final class AsksTest {
         CHECK.due("by marks of now", y.fewest(0, 4), 1);
         y.marks(1, 1, 0);
         CHECK.due("by lesser marks", y.fewest(0, 4), 4);
+        // Both others meet the first one, but not each other.
+        TownAsks z = new TownAsks();
+        z.ask(1, 2, 0, 0, 0);
+        z.ask(1, 0, 0, 0, 0);
+        z.ask(1, 4, 0, 0, 0);
+        CHECK.due("any two of a set meet", z.fewest(0, 3), 2);
     }
 
     private static void fewestEdges() {

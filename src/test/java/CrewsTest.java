@@ -51,6 +51,8 @@ public final class CrewsTest {
         x.effort(0, 17);
         CHECK.due("17 hours", x.order(0, 1, here, 100, 0), 1);
         CHECK.due("day 999", x.order(0, 1, here, 999, 0), 1);
+        CHECK.due("hours where all break", x.order(0, 1, here, 999, 1), 17);
+        CHECK.due("thing where all break", x.order(0, 1, here, 999, 2), 0);
         CHECK.due("day 0", x.order(0, 1, here, 0, 0), 0);
     }
 

@@ -51,6 +51,9 @@ public final class QuartersTest {
     private static void thingsAndAsks() {
         TownAsks x = new TownAsks();
         Check.useText(x, "a011;");
+        for (int quarter = 0; quarter < 4; quarter++) {
+            x.walk(quarter, 4, 1);
+        }
         x.ask(1, 15, 15, 0, 0);
         x.ask(1, 16, 15, 0, 0);
         x.ask(1, 15, 16, 0, 0);

@@ -184,6 +184,8 @@ public final class SheetsTest {
         CHECK.due("missing", x.read(3, 0, 50), Check.MISSING);
         CHECK.due("1024", x.read(0, 0, 50), Check.BEYOND);
         CHECK.due("-1", x.read(1, 0, 50), Check.BEYOND);
+        fill(x, 1, 8, -1, 0);
+        CHECK.due("-1 first", x.read(1, 0, 50), Check.BEYOND);
         CHECK.due("none came", x.told(0), 1);
         for (int i = 1; i <= 3; i++) {
             CHECK.due("12 more", x.read(2, 0, 50), 1 + 12 * i);
@@ -208,8 +210,9 @@ public final class SheetsTest {
         x.ask(1, 0, 0, 0, 4);
         x.ask(1, 9, 9, 0, 5);
         x.ask(2, 9, 9, 0, 6);
-        x.close(1, 9);
-        int[] want = {4, 3, 2, 3, 2, 1, 6, 0};
+        CHECK.due("close for desk 1", x.close(1, 9), 1);
+        CHECK.due("close for desk 0", x.close(2, 9), 0);
+        int[] want = {4, 3, 1, 3, 2, 2, 6, 0};
         for (int what = 0; what < want.length; what++) {
             CHECK.due("told(" + what + ")", x.told(what), want[what]);
         }
