@@ -224,6 +224,9 @@ public final class CrewEdgesTest {
         EDGES.taken("closed", 1, x -> x.order(Scene.CLOSED, 1, 0, 999, 0));
         EDGES.taken("looked at", 1, x -> x.order(Scene.LOOKED_AT, 1, 0, 999, 0));
         EDGES.taken("in a ring", 1, x -> x.order(Scene.IN_A_RING, 1, 0, 999, 0));
+        EDGES.taken("where each breaks: how many", 4, x -> x.order(1, 15, 0, 999, 0));
+        EDGES.taken("where each breaks: the hours", 7 + 4 + 4 + 2 + 3 + 1 + 1 + 2, x -> x.order(1, 15, 0, 999, 1));
+        EDGES.taken("where each breaks: the first", 1, x -> x.order(1, 15, 0, 999, 2));
         EDGES.taken("all five", 4, x -> x.order(0, 31, 0, 999, 0));
         EDGES.taken("all five are done", 5, x -> countOrdered(x, 0, 31));
     }

@@ -9,6 +9,7 @@ public final class SheetEdgesTest {
         askedForNotMoreThanSeen();
         walkInPlaceOfWhatWasTold();
         quarterWithinItsRanges();
+        thingsThere();
         hundredWithoutAny();
         quotientsAreCut();
         noneWhereItIsNull();
@@ -33,6 +34,7 @@ public final class SheetEdgesTest {
         readOfMoreThanForty();
         readOfNone();
         toldWithinItsRange();
+        toldOfAllDesks();
         toldOfFindings();
         CHECK.finish();
     }
@@ -80,6 +82,32 @@ public final class SheetEdgesTest {
         EDGES.range("quarter what", 0, 4, (x, v) -> x.quarter(2, v));
         EDGES.refused("BEYOND ahead of NONE", Check.BEYOND, x -> x.quarter(1, 5));
         EDGES.refused("quarter of neither", Check.BEYOND, x -> x.quarter(4, 5));
+    }
+
+    /** "0 THINGS there, 1 ASKS there (by their own PLACES), 2 THINGS CLOSED", with none and with all of them. */
+    private static void thingsThere() {
+        TownAsks x = new TownAsks();
+        Check.useText(x, "a001;");
+        counts("none", x, 0, 0, 0);
+        x.ask(0, 15, 15, 0, 0);
+        x.ask(0, 16, 15, 0, 0);
+        counts("one thing, one of its asks elsewhere", x, 1, 1, 0);
+        CHECK.due("no thing elsewhere", x.quarter(1, 0), 0);
+        CHECK.due("an ask elsewhere", x.quarter(1, 1), 1);
+        x.close(0, 0);
+        counts("all closed", x, 1, 1, 1);
+        CHECK.due("none elsewhere", x.quarter(1, 2), 0);
+        x.look(0, false);
+        counts("open again", x, 1, 1, 0);
+        x.close(0, 0);
+        x.look(0, true);
+        counts("closed and looked at", x, 1, 1, 1);
+    }
+
+    private static void counts(String when, TownAsks x, int... want) {
+        for (int what = 0; what < want.length; what++) {
+            CHECK.due(when + ": quarter(0, " + what + ")", x.quarter(0, what), want[what]);
+        }
     }
 
     /** "(100 without any)". */
@@ -459,6 +487,22 @@ public final class SheetEdgesTest {
         CHECK.due("the latest day may be 0", x.told(6), 0);
         x.ask(0, 0, 0, 0, 999);
         CHECK.due("or 999", x.told(6), 999);
+    }
+
+    /** "CLOSINGS of all DESKS": the first one's and the last one's, too. */
+    private static void toldOfAllDesks() {
+        TownAsks x = new TownAsks();
+        Check.useText(x, "a101;a251;a329;");
+        for (int kind = 1; kind <= 3; kind++) {
+            x.ask(kind, 0, 0, 0, 0);
+            CHECK.due("none of " + kind, x.told(5), kind - 1);
+            x.close(kind - 1, 0);
+            CHECK.due("one of " + kind, x.told(5), kind);
+        }
+        x.look(0, false);
+        CHECK.due("a false one was a closing", x.told(5), 3);
+        x.close(0, 0);
+        CHECK.due("anew", x.told(5), 4);
     }
 
     /** "how many acts answered a finding ever (this one, too, if it does)". */
