@@ -28,7 +28,10 @@ public final class FaceTest {
     public static void main(String[] args) throws Exception {
         theFace();
         theMembers();
-        theSource(Files.readString(Path.of(args[0])));
+        String whole = Files.readString(Path.of(args[0]));
+        theSource(whole);
+        theHeadings(whole);
+        whereObjectsAreMade(whole);
         CHECK.finish();
     }
 
@@ -102,6 +105,39 @@ public final class FaceTest {
             if (whole.charAt(i) > 126) {
                 CHECK.due("a sign above 126 at " + i, 1, 0);
             }
+        }
+    }
+
+    /** "Ahead of the calls .. the interface says: ---- ..", with the calls in the document's order. */
+    private static void theHeadings(String whole) {
+        String want = "asks: ask marks meet of as fewest; things: thing asked;"
+                + " desks: feed text whose promise sent; crews: effort order;"
+                + " closed and looked at: close look closings; quarters: walk quarter;"
+                + " sheets: sheet write copy read told;";
+        StringBuilder got = new StringBuilder();
+        Matcher row = Pattern.compile("(?m)^    (?:// ---- (.*)|public int (\\w+)\\(.*)$").matcher(whole);
+        while (row.find()) {
+            if (row.group(1) == null) {
+                got.append(' ').append(row.group(2));
+            } else {
+                got.append(got.length() == 0 ? "" : "; ").append(row.group(1)).append(':');
+            }
+        }
+        // What stands behind the last heading is the class's own, without any call of the face.
+        String face = got.substring(0, Math.max(0, got.lastIndexOf(";")) + 1);
+        CHECK.dueText("headings", face, want);
+        CHECK.dueText("behind them", got.substring(face.length()), " what the acts share:");
+    }
+
+    /** All runs share one room, so rows are made with the object, in its constructor or beside fields. */
+    private static void whereObjectsAreMade(String whole) {
+        int from = whole.indexOf("    public TownAsks() {");
+        int to = whole.indexOf("\n    }\n", from);
+        String others = whole.substring(0, from) + whole.substring(to);
+        for (String line : others.split("\n")) {
+            boolean makes = Pattern.compile("\\bnew\\b[^;]*[\\[(]").matcher(line).find();
+            boolean field = line.startsWith("        private final ");
+            CHECK.due("made in a call: " + line.strip(), makes && !field ? 1 : 0, 0);
         }
     }
 }
